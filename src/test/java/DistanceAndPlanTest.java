@@ -7,6 +7,7 @@ public final class DistanceAndPlanTest {
         takesWhatIsUnwanted();
         takesWhatALimitForbids();
         firstMakesAnAdministrator();
+        mindsWhatStandsBelow();
         hasTheLeastCodes();
         goesALongWay();
         asksOfTwelvePairs();
@@ -112,6 +113,28 @@ public final class DistanceAndPlanTest {
         isFar("nobody is left to give", y, 0, 1);
     }
 
+    private static void mindsWhatStandsBelow() {
+        RoleAnalyser x = Check.world(4, 2);
+        x.above(2, 1);
+        x.assign(0, 0);
+        x.assign(1, 2);
+        x.giveRule(0, 2, 0, 3);
+        isPlan("needed by authorization", x, 1, 3, 130);
+        RoleAnalyser y = Check.world(4, 2);
+        y.above(2, 1);
+        y.assign(0, 0);
+        y.assign(1, 2);
+        y.giveRule(0, 0, 2, 3);
+        isFar("unwanted by authorization", y, 1, 3);
+        y.takeRule(0, 2);
+        isPlan("unwanted until taken", y, 1, 3, 121, 130);
+        RoleAnalyser z = Check.world(3, 2);
+        z.above(2, 1);
+        z.assign(1, 2);
+        z.giveRule(1, 0, 0, 0);
+        isPlan("an administrator by authorization, and the least code", z, 0, 0, 0);
+    }
+
     private static void hasTheLeastCodes() {
         RoleAnalyser x = Check.world(4, 2);
         x.assign(0, 0);
@@ -202,6 +225,8 @@ public final class DistanceAndPlanTest {
         x.user();
         x.role();
         isPlan("with more pairs", x, 1, 2, 120);
+        x.remove(0, 0);
+        isFar("asked anew without the administrator", x, 1, 2);
     }
 
     private static void refusesWhatIsNotThere() {

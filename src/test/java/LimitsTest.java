@@ -7,6 +7,7 @@ public final class LimitsTest {
         dynamicOnesMustBeKept();
         countsRolesAddedLater();
         countsUpToTheNumber();
+        looksAtEveryUserAndSession();
         Check.end();
     }
 
@@ -100,5 +101,20 @@ public final class LimitsTest {
         x.activate(0, 2);
         Check.state("a third of the set", () -> x.activate(0, 3));
         Check.same("nothing active changed", 7, x.active(0));
+    }
+
+    private static void looksAtEveryUserAndSession() {
+        RoleAnalyser x = Check.world(6, 5);
+        x.assign(4, 4);
+        x.assign(4, 5);
+        for (int i = 0; i < 4; i++) {
+            x.open(4);
+        }
+        x.activate(3, 4);
+        x.activate(3, 5);
+        Check.state("the last user", () -> x.limit(false, 48, 2));
+        Check.state("the last session", () -> x.limit(true, 48, 2));
+        Check.passes("kept by all users", () -> x.limit(false, 48, 3));
+        Check.passes("kept by all sessions", () -> x.limit(true, 48, 3));
     }
 }

@@ -1,4 +1,3 @@
-import java.util.Arrays;
 import java.util.Random;
 
 /** All promises at once: long runs of calls, the same ones every time, on RoleAnalyser and on the Model. */
@@ -12,8 +11,7 @@ public final class ModelTest {
     private static final String[] QUESTIONS = {"roles", "roles", "active", "active", "may", "distance", "plan", "plan"};
 
     private final Random random;
-    private final Model model = new Model();
-    private final RoleAnalyser real = new RoleAnalyser();
+    private final Twins twins = new Twins();
     private int roles = 0;
     private int users = 0;
 
@@ -51,15 +49,12 @@ public final class ModelTest {
 
     /** Whether both answer alike; a run ends at its first difference, as all later ones may come of it. */
     private boolean agree(int run, int number, String name) {
-        int[] given = arguments(name);
-        String due = model.answer(name, given);
-        String got = answer(name, given);
-        Check.same("run " + run + ", call " + number + ": " + name + Arrays.toString(given), due, got);
-        if (!due.startsWith("throws")) {
+        boolean alike = twins.agree("run " + run + ", call " + number, name, arguments(name));
+        if (!twins.lastAnswer().startsWith("throws")) {
             roles += name.equals("role") ? 1 : 0;
             users += name.equals("user") ? 1 : 0;
         }
-        return due.equals(got);
+        return alike;
     }
 
     private int[] arguments(String name) {
@@ -107,39 +102,5 @@ public final class ModelTest {
             return random.nextBoolean() ? -1 : count;
         }
         return random.nextInt(count);
-    }
-
-    private String answer(String name, int[] given) {
-        try {
-            return realAnswer(name, given);
-        } catch (RuntimeException e) {
-            return "throws." + e.getClass().getSimpleName();
-        }
-    }
-
-    private String realAnswer(String name, int[] p) {
-        switch (name) {
-            case "role": return "" + real.role();
-            case "user": return "" + real.user();
-            case "above": return "" + real.above(p[0], p[1]);
-            case "grant": return "" + real.grant(p[0], p[1]);
-            case "limit": real.limit(p[0] == 1, p[1], p[2]); return "done";
-            case "giveRule": return "" + real.giveRule(p[0], p[1], p[2], p[3]);
-            case "takeRule": return "" + real.takeRule(p[0], p[1]);
-            case "assign": return "" + real.assign(p[0], p[1]);
-            case "remove": return "" + real.remove(p[0], p[1]);
-            case "give": return "" + real.give(p[0], p[1], p[2]);
-            case "take": return "" + real.take(p[0], p[1], p[2]);
-            case "roles": return "" + real.roles(p[0], p[1] == 1);
-            case "open": return "" + real.open(p[0]);
-            case "close": real.close(p[0]); return "done";
-            case "activate": return "" + real.activate(p[0], p[1]);
-            case "rest": return "" + real.rest(p[0], p[1]);
-            case "active": return "" + real.active(p[0]);
-            case "may": return "" + real.may(p[0], p[1]);
-            case "distance": return "" + real.distance(p[0], p[1]);
-            case "plan": return "" + real.plan(p[0], p[1], p[2]);
-            default: throw new AssertionError(name);
-        }
     }
 }
