@@ -36,7 +36,7 @@ final class Check {
         }
     }
 
-    private static void fails(String what, Class<?> due, Runnable call) {
+    static void fails(String what, Class<?> due, Runnable call) {
         Object got = "no exception";
         try {
             call.run();
