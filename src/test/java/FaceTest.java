@@ -36,7 +36,49 @@ public final class FaceTest {
         Check.same("public constructors", 1, RoleAnalyser.class.getConstructors().length);
         Check.same("methods", new TreeSet<>(Set.of(FACE)), visibleMethods());
         Check.same("fields", Set.of("NONE"), visibleFields());
+        Check.same("modifiers of NONE", Modifier.PUBLIC | Modifier.STATIC | Modifier.FINAL, modifiersOfNone());
+        Check.same("classes inside that are seen or not static", Set.of(), openClasses());
+        Check.same("hidden methods with a name of the face", Set.of(), hiddenNamesakes());
         Check.end();
+    }
+
+    private static int modifiersOfNone() {
+        try {
+            return RoleAnalyser.class.getDeclaredField("NONE").getModifiers();
+        } catch (NoSuchFieldException e) {
+            return 0;
+        }
+    }
+
+    private static Set<String> openClasses() {
+        Set<String> seen = new TreeSet<>();
+        for (Class<?> inside : RoleAnalyser.class.getDeclaredClasses()) {
+            int modifiers = inside.getModifiers();
+            if (Modifier.isPublic(modifiers) || Modifier.isProtected(modifiers) || !Modifier.isStatic(modifiers)) {
+                seen.add(inside.getSimpleName());
+            }
+        }
+        return seen;
+    }
+
+    private static Set<String> hiddenNamesakes() {
+        Set<String> face = new TreeSet<>();
+        for (Method method : RoleAnalyser.class.getMethods()) {
+            face.add(method.getName());
+        }
+        Set<String> hidden = new TreeSet<>();
+        for (Method method : RoleAnalyser.class.getDeclaredMethods()) {
+            if (Modifier.isPrivate(method.getModifiers())) {
+                hidden.add(method.getName());
+            }
+        }
+        for (Class<?> inside : RoleAnalyser.class.getDeclaredClasses()) {
+            for (Method method : inside.getDeclaredMethods()) {
+                hidden.add(method.getName());
+            }
+        }
+        hidden.retainAll(face);
+        return hidden;
     }
 
     private static Set<String> visibleMethods() {
